@@ -5,6 +5,7 @@ public final class HoursTest {
         rule();
         ruleTies();
         bestTies();
+        theLast();
         due();
         plans();
         blocks();
@@ -111,6 +112,62 @@ public final class HoursTest {
         x.thing(0, 100, 1, 1, 20);
         Check.due("rates 2631 and 2631, cut: the lesser number", x.alarm(38), 50);
         Check.due("gap of them", x.gap(), 50);
+        Check.due("3 by 40 and 4 by 53 are 75", twoRates(3, 10, 20, 4, 18, 17), 3);
+        Check.due("3 by 44 and 2 by 29 are 68", twoRates(3, 12, 20, 2, 10, 9), 3);
+        Check.due("2 by 29 and 3 by 44 are 68", twoRates(2, 10, 9, 3, 12, 20), 2);
+    }
+
+    /** WORTH by RULE of two THINGS, of which one alone can be out. */
+    private static int twoRates(int worth, int far, int pack, int otherWorth, int otherFar, int otherPack) {
+        MuseumFlight x = new MuseumFlight();
+        x.team(1);
+        x.door(0, 1, 9);
+        x.door(1, 10, far - 9);
+        x.door(0, 2, 9);
+        x.door(2, 11, otherFar - 9);
+        x.thing(0, worth, 1, 10, pack);
+        x.thing(0, otherWorth, 1, 11, otherPack);
+        return x.alarm(Math.max(2 * far + pack, 2 * otherFar + otherPack));
+    }
+
+    /** The last DOOR, ROOM, THING, and TEAM there can be. */
+    private static void theLast() {
+        MuseumFlight x = new MuseumFlight();
+        for (int d = 0; d < 19; d++) {
+            x.door(1, 2 + d % 9, 1);
+        }
+        x.door(0, 11, 1);
+        for (int k = 0; k < 3; k++) {
+            x.team(k == 2 ? 4 : 1);
+        }
+        for (int i = 0; i < 16; i++) {
+            x.thing(3, 10 + i, 4, i < 9 ? 1 : 11, 0);
+        }
+        Check.due("alarm", x.alarm(4), 25 + 24);
+        Check.due("the last THING", x.given(15), 2);
+        Check.due("it is begun behind 14", x.begins(15), 2);
+        x.minutes(3);
+        Check.due("seal", x.seal(15, 0, 2), 202);
+        x = new MuseumFlight();
+        for (int d = 0; d < 19; d++) {
+            x.door(1, 2 + d % 9, 1);
+        }
+        x.door(0, 11, 1);
+        x.team(1);
+        x.team(1);
+        x.team(4);
+        for (int i = 0; i < 16; i++) {
+            x.thing(3, 10 + i, 4, 11, 0);
+        }
+        x.alarm(30);
+        x.minutes(16);
+        Check.due("best of THING 0 and the last seven", x.plan(true), 19 + 20 + 21 + 22 + 23 + 24 + 25);
+        Check.due("the least has no TEAM", x.given(0), -1);
+        Check.due("the last THING by BEST", x.given(15), 2);
+        Check.due("the last THING by BEST is begun", x.begins(15), 28);
+        Check.due("the last DOOR is blocked", x.block(19), 0);
+        Check.due("the last DOOR is blocked already", x.block(19), -6);
+        Check.due("no way", x.far(11), -1);
     }
 
     /** BEST: of several, THING 0 has the lesser TEAM, then THING 1, and one without a TEAM comes behind. */

@@ -100,6 +100,8 @@ public final class HouseTest {
         }
         Check.due("thing 16", x.thing(0, 1, 1, 1, 0), -7);
         Check.due("thing wrong ahead of room", x.thing(0, 0, 1, 1, 0), -6);
+        Check.due("show the last", x.show(0, 15), 1);
+        Check.due("label of the last", x.label(0), -2);
         MuseumFlight y = new MuseumFlight();
         y.alarm(1);
         Check.due("thing behind the ALARM", y.thing(0, 1, 1, 1, 0), -6);
@@ -195,6 +197,10 @@ public final class HouseTest {
         Check.due("danger -1", x.danger(-1, 5), -1);
         Check.due("danger 12", x.danger(12, 5), -1);
         Check.due("danger nobody first", x.danger(12, 500), -1);
+        Check.due("all of them refused", x.status(11), 4);
+        Check.due("danger 11", x.danger(11, 7), -1);
+        Check.due("danger 11 was", x.danger(11, -1), 7);
+        Check.due("none of them refused", x.status(11), 4);
         Check.due("danger minute -2", x.danger(1, -2), -6);
         Check.due("danger minute 241", x.danger(1, 241), -6);
         Check.due("danger at first", x.danger(1, 0), -1);

@@ -17,6 +17,11 @@ public final class PapersTest {
         Check.due("paper of nobody", x.paper(0, 10, 5, 4), -1);
         x.thing(0, 1, 1, 1, 0);
         x.thing(0, 1, 1, 1, 0);
+        for (int i = 0; i < 6; i++) {
+            x.paper(1, 2, i, i);
+            Check.due("paper " + i, x.holder(1, i), 2);
+        }
+        x.thing(0, 1, 1, 1, 0);
         Check.due("who -1", x.paper(0, -1, 0, 0), -6);
         Check.due("who 10", x.paper(0, 10, 0, 0), -6);
         Check.due("from -1", x.paper(0, 1, -1, 0), -6);
@@ -37,15 +42,17 @@ public final class PapersTest {
         Check.due("paper", x.paper(0, 9, 50, 60), 3);
         Check.due("two unlike still", x.holder(0, 50), 100);
         Check.due("two alike", x.holder(0, 55), 9);
+        Check.due("holder 201 still", x.holder(0, 201), -1);
         Check.due("paper", x.paper(0, 0, 1, 2), 4);
         Check.due("paper", x.paper(0, 0, 1, 2), 5);
-        Check.due("paper", x.paper(0, 0, 1, 2), 6);
+        Check.due("paper", x.paper(0, 9, 3, 4), 6);
+        Check.due("the sixth counts", x.holder(0, 3), 9);
         Check.due("paper 7", x.paper(0, 0, 1, 2), -7);
         Check.due("paper wrong ahead of room", x.paper(0, 10, 1, 2), -6);
-        Check.due("of the other", x.paper(1, 0, 7, 8), 1);
-        Check.due("WHO 0", x.holder(1, 7), 0);
+        Check.due("of the other", x.paper(2, 0, 7, 8), 1);
+        Check.due("WHO 0", x.holder(2, 7), 0);
         Check.due("papers", x.about(0, 7), 6);
-        Check.due("no such thing", x.holder(2, 7), -1);
+        Check.due("no such thing", x.holder(3, 7), -1);
         Check.due("no such thing", x.holder(-1, 7), -1);
         Check.due("refused nobody", x.status(11), 1);
     }

@@ -10,6 +10,7 @@ public final class YearsTest {
         moves();
         spreads();
         spreadKeeps();
+        spreadLast();
         spreadTies();
         spreadRefusals();
         weeks();
@@ -342,6 +343,45 @@ public final class YearsTest {
         y.spread(true);
         Check.due("to the lesser", y.about(0, 0), 400);
         Check.due("to the other", y.about(1, 0), 401);
+    }
+
+    /** The last THING, PLACE, GROUP and KIND; and KEEP of a KIND that isn't moved. */
+    private static void spreadLast() {
+        int[] kinds = new int[16];
+        int[] hands = new int[16];
+        java.util.Arrays.fill(kinds, 3);
+        java.util.Arrays.fill(hands, 1);
+        MuseumFlight x = inTheYard(kinds, hands);
+        for (int p = 0; p < 5; p++) {
+            x.place(p == 4 ? 13 : 3, p == 4 ? 3 : 2, p == 4 ? 1 : 9);
+            giveAir(x, p, 0, 50);
+        }
+        x.fuel(1000);
+        for (int i = 0; i < 12; i++) {
+            Check.due("move", x.move(i, 4), 999 - i);
+        }
+        Check.due("one more fits in PLACE 4", x.spread(false), 1 + 27);
+        x.keep(3, 4);
+        Check.due("four elsewhere", x.spread(false), 36);
+        x.keep(3, 5);
+        Check.due("five can't be elsewhere", x.spread(false), -6);
+        x.keep(3, 0);
+        Check.due("spread", x.spread(true), 28);
+        Check.due("the first", x.about(12, 0), 400);
+        Check.due("the second", x.about(13, 0), 400);
+        Check.due("the third", x.about(14, 0), 400);
+        Check.due("the last", x.about(15, 0), 404);
+        x = inTheYard(new int[] {3, 3, 0}, new int[] {1, 1, 1});
+        for (int g = 0; g < 3; g++) {
+            x.place(9, g, 1);
+            giveAir(x, g, 0, 50);
+        }
+        x.fuel(9);
+        x.move(0, 1);
+        x.move(1, 1);
+        Check.due("spread", x.spread(false), 1);
+        x.keep(3, 1);
+        Check.due("KEEP is broken by what stays in GROUP 1", x.spread(false), -6);
     }
 
     private static void spreadTies() {
