@@ -18,6 +18,7 @@ public final class HoursEdgesTest {
         bestOrder();
         planRefusals();
         planEight();
+        planOfNone();
         planFromNowOn();
         gapRefusals();
         gapChangesNothing();
@@ -315,6 +316,24 @@ public final class HoursEdgesTest {
         x.alarm(3);
         taken("16: BEST of none", x, 0, y -> y.plan(true));
         taken("16: RULE of none", x, 0, y -> y.plan(false));
+    }
+
+    /** 16 THINGS, of which the last seven can't be carried any more: BEST is of none, the last one's TEAM, too. */
+    private static void planOfNone() {
+        MuseumFlight x = house(3);
+        for (int i = 0; i < 16; i++) {
+            x.thing(0, 10, 1, 1, 0);
+        }
+        x.alarm(20);
+        x.minutes(5);
+        Check.due("16: seven in ROOMS", x.status(4), 7);
+        x.danger(1, 5);
+        taken("16: BEST of seven in DANGER", x, 0, y -> y.plan(true));
+        seen("17: no gap", x, 0, MuseumFlight::gap);
+        for (int i = 9; i < 16; i++) {
+            Check.due("16: no TEAM", x.given(i), -1);
+            Check.due("16: not begun", x.begins(i), -1);
+        }
     }
 
     /** "and so from now on": a small THING first by RULE, a large one by BEST. */
